@@ -19,6 +19,7 @@ public final class BackwardTest {
         goToTimes();
         goToBeyondTheEnd();
         goToATrap();
+        farBackFromATrap();
         wrongTimes();
         check.close();
     }
@@ -222,6 +223,22 @@ public final class BackwardTest {
         check.due("beyond it, from it", x.goTo(2), 1);
         check.told("forgotten, and not noted", x, 1, 1, 0);
         check.due("no lines", new TraceDebugger(1).goTo(2000), 0);
+    }
+
+    /** The counter stops in a TRAP at time 254, when there is no cell 64; the state kept before it is that of time 200. */
+    private static void farBackFromATrap() {
+        TraceDebugger x = counter(100);
+        check.due("TRAP", x.go(), TRAP);
+        check.told("TRAP", x, 254, 1, 2);
+        check.due("back", x.back(), DONE);
+        check.told("back", x, 253, 1, 0);
+        check.due("TRAP again", x.go(), TRAP);
+        check.due("goTo", x.goTo(130), 130);
+        check.told("goTo", x, 130, 1, 0);
+        check.due("TRAP once more", x.go(), TRAP);
+        x.mark(4, true);
+        check.due("reverse", x.reverse(), BREAK);
+        check.told("reverse", x, 252, 1, 0);
     }
 
     private static void wrongTimes() {

@@ -234,8 +234,15 @@ public final class MakingTest {
         check.due("cells 0 at time 0", x.goTo(0), 0);
         check.due("the poked one too", x.cell(9), 0);
         TraceDebugger ended = Check.made(3, Check.l(12, 0, 0));
+        ended.poke(0, 1);
+        ended.mark(0, true);
+        ended.watch(0, true);
         ended.go();
         ended.clear();
+        check.due("cell 0 too", ended.cell(0), 0);
+        check.due("the watch of cell 0 too", ended.watch(0, false), false);
+        ended.line(12, 0, 0);
+        check.due("the mark of line 0 too", ended.mark(0, false), false);
         check.due("the END is gone", ended.told(6), 0);
     }
 }
