@@ -13,6 +13,12 @@ final class Check {
 
     private int right;
     private int wrong;
+    private String sentence = "";
+
+    /** The words of the document that the answers from here on are about; told with each wrong one. */
+    void sentence(String words) {
+        sentence = "\"" + words + "\": ";
+    }
 
     void due(String what, Object got, Object want) {
         if (Objects.equals(got, want)) {
@@ -20,7 +26,7 @@ final class Check {
             return;
         }
         wrong++;
-        System.out.println(what + ": answered " + got + ", due is " + want);
+        System.out.println(sentence + what + ": answered " + got + ", due is " + want);
     }
 
     /** The call throws just that, and nothing that can be seen of the object is another. */
