@@ -13,6 +13,7 @@ public final class AnewTest {
         oldStatesAreNotUsed();
         oldTrapsAreLines();
         othersLeaveIt();
+        theFarthestTimeAgain();
         clearHasTheFirstSpacing();
         check.close();
     }
@@ -161,6 +162,21 @@ public final class AnewTest {
         check.refused("poke that is refused", x, Check.STATE, () -> x.poke(0, 0));
         x.step();
         check.due("what was not", Picture.keptOf(x), kept + " 10");
+    }
+
+    private static void theFarthestTimeAgain() {
+        check.sentence("when it is come to for the first time");
+        TraceDebugger x = Programs.loop(2);
+        x.goTo(4);
+        for (int times = 0; times < 3; times++) {
+            check.due("back", x.back(), DONE);
+            check.due("kept when it is left", Picture.keptOf(x), " 0 2 4");
+            check.due("step", x.step(), DONE);
+            check.due("kept when it is come to again", Picture.keptOf(x), " 0 2 4");
+        }
+        x.goTo(0);
+        x.goTo(6);
+        check.due("and one more", Picture.keptOf(x), " 0 2 4 6");
     }
 
     private static void clearHasTheFirstSpacing() {
